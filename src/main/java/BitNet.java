@@ -251,10 +251,13 @@ public final class BitNet {
             cells[cellOf(row, column)] = value;
         }
 
-        /** Adds a row, whose cells hold what they happen to hold, and answers where it stands. */
+        /** Adds a row of zeros and answers where it stands. */
         int add() {
             if (size * width == cells.length) {
                 grow();
+            }
+            for (int column = 0; column < width; column++) {
+                set(size, column, 0);
             }
             size++;
             return size - 1;
@@ -718,10 +721,7 @@ public final class BitNet {
         }
 
         int start(int r, int set) {
-            int row = packets.add();
-            packets.set(row, DELIVERED, 0);
-            packets.set(row, CROSSINGS, 0);
-            int packet = row + 1;
+            int packet = packets.add() + 1;
             handle(packet, r, set, 0);
             return packet;
         }

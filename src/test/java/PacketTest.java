@@ -18,6 +18,7 @@ final class PacketTest {
         packetsWithWrongNumbers();
         counts();
         tooManyCopies();
+        movesToTheLimit();
         Check.end();
     }
 
@@ -308,5 +309,24 @@ final class PacketTest {
         net.carry(1);
         Check.illegalState("one more for a group", () -> net.send(0, 0));
         Check.illegalArgument("not the ingress", () -> net.send(1, 0));
+    }
+
+    private static void movesToTheLimit() {
+        BitNet net = Nets.star();
+        for (int n = 1; n <= 8; n++) {
+            net.sendBits(1, 0b1100);
+        }
+        for (int n = 1; n <= 353; n++) {
+            net.sendBits(0, 0b111111111110);
+        }
+        net.sendBits(0, 0b11110);
+        // The oldest 8 become two each when they come to 0.
+        Check.same("copies", net.count(1), 8 + 353 * 11 + 4);
+        Check.same("until 3900 are on their way", net.move(1000), 5);
+        Check.same("copies", net.count(1), 3900);
+        Check.illegalState("move at 3900", () -> net.move(1));
+        net.move(-1);
+        Check.same("one more", net.move(1000), 1);
+        Check.same("copies", net.count(1), 3900);
     }
 }

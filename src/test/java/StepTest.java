@@ -10,8 +10,12 @@ final class StepTest {
         lowerNumbersAreAnswered();
         settledOrNot();
         settledInParts();
+        sameNumbersAreNotSentOn();
+        messagesStayInOrder();
         storedWithWrongArguments();
+        linksAtTheLimit();
         tooManyMessages();
+        stepsToTheLimit();
         Check.end();
     }
 
@@ -164,6 +168,105 @@ final class StepTest {
         Check.illegalArgument("stored(0, -1)", () -> net.stored(0, -1));
         Check.illegalArgument("stored(0, 12)", () -> net.stored(0, 12));
         Check.same("none of its own", net.stored(11, 11), 0);
+    }
+
+    private static void sameNumbersAreNotSentOn() {
+        BitNet net = new BitNet();
+        net.link(0, 1, 1);
+        net.link(1, 2, 1);
+        net.link(0, 2, 1);
+        net.step(1000);
+        net.link(0, 3, 1);
+        // 0 to 1, 2 and 3; 3 to 0; 0's store of 1 and 2 to 3.
+        Check.same("sent", net.count(0), 6);
+        net.step(3);
+        // 1 and 2 sent 0's on to each other.
+        Check.same("sent on", net.count(0), 5);
+        net.step(3);
+        // 0 sent 3's on to 1 and 2; 3 had nobody to send on to.
+        Check.same("sent on", net.count(0), 4);
+        net.step(2);
+        Check.same("0's are of the same number as what they have", net.count(0), 2);
+        Check.same("3's go on between 1 and 2", net.step(1000), 4);
+    }
+
+    private static void messagesStayInOrder() {
+        BitNet net = new BitNet();
+        for (int n = 1; n <= 9; n++) {
+            anew(net, 0, 1);
+        }
+        Check.same("two a time", net.count(0), 18);
+        net.step(5);
+        Check.same("0's third", net.stored(1, 0), 5);
+        Check.same("1's second", net.stored(0, 1), 3);
+        for (int n = 1; n <= 30; n++) {
+            anew(net, 0, 1);
+        }
+        // Each time a number is told and the next one, that of the unlearning, is told to nobody;
+        // from the tenth on both send what they have of each other, too.
+        Check.same("four a time", net.count(0), 13 + 30 * 4);
+        net.step(13);
+        Check.same("0's ninth", net.stored(1, 0), 17);
+        Check.same("1's ninth", net.stored(0, 1), 17);
+        net.step(2);
+        Check.same("0's tenth", net.stored(1, 0), 19);
+        Check.same("1's tenth", net.stored(0, 1), 19);
+    }
+
+    /** Makes a link, after it has been cut and unlearnt if there was one. */
+    private static void anew(BitNet net, int a, int b) {
+        if (net.stored(a, a) != 0) {
+            net.cut(a, b);
+            net.notice(a, b);
+            net.notice(b, a);
+        }
+        net.link(a, b, 1);
+    }
+
+    /**
+     * Messages that pile up in a full mesh of some routers, whose link of 0 and 1 is made anew some
+     * times; older than these are some between 10 and 11, which are sent on to nobody.
+     */
+    private static BitNet crowd(int oldOnes, int routers, int times) {
+        BitNet net = new BitNet();
+        for (int n = 0; n < oldOnes; n += 2) {
+            anew(net, 10, 11);
+        }
+        for (int a = 0; a < routers; a++) {
+            for (int b = a + 1; b < routers; b++) {
+                net.link(a, b, 1);
+            }
+        }
+        for (int n = 0; n < times; n++) {
+            anew(net, 0, 1);
+        }
+        return net;
+    }
+
+    private static void linksAtTheLimit() {
+        BitNet net = crowd(30, 10, 45);
+        int over = net.count(0) - 2000;
+        Check.yes("some messages of 10 and 11 over 2000", over > 0 && over < 30);
+        net.cut(2, 3);
+        Check.same("these go nowhere from there", net.step(over), over);
+        Check.same("2000 messages", net.count(0), 2000);
+        Check.illegalState("link at 2000", () -> net.link(9, 10, 1));
+        Check.illegalState("notice at 2000", () -> net.notice(2, 3));
+        net.step(1);
+        Check.same("1999 messages", net.count(0), 1999);
+        net.notice(2, 3);
+        Check.same("notice at 1999", net.count(0), 1999 + 8);
+        net.step(8);
+        net.link(9, 10, 1);
+        Check.same("link at 1999", net.count(0), 1999 + 10 + 2 + 1);
+    }
+
+    private static void stepsToTheLimit() {
+        BitNet net = crowd(2, 9, 50);
+        net.step(1000);
+        Check.same("just 3900", net.count(0), 3900);
+        Check.illegalState("step at 3900", () -> net.step(1));
+        Check.same("nothing was carried", net.count(0), 3900);
     }
 
     private static void tooManyMessages() {
