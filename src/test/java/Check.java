@@ -26,6 +26,27 @@ final class Check {
         same(call, got ? 1 : 0, 0);
     }
 
+    /** Of two texts of many lines the first line that differs is printed. */
+    static void alike(String call, String got, String due) {
+        asked++;
+        if (!got.equals(due)) {
+            wrong++;
+            String[] gotLines = got.split("\n");
+            String[] dueLines = due.split("\n");
+            int line = 0;
+            while (line < gotLines.length && line < dueLines.length
+                    && gotLines[line].equals(dueLines[line])) {
+                line++;
+            }
+            System.out.println(call + ": " + lineOf(gotLines, line)
+                    + ", due is " + lineOf(dueLines, line));
+        }
+    }
+
+    private static String lineOf(String[] lines, int line) {
+        return line < lines.length ? lines[line] : "nothing more";
+    }
+
     static void illegalArgument(String call, Call body) {
         throwsJust(call, body, IllegalArgumentException.class);
     }

@@ -8,11 +8,12 @@ final class GroupTest {
         ingressesThatMayNotChange();
         joins();
         joinsWithoutIngress();
-        joinsWithWrongArguments();
         reports();
+        reportsOfOneAndOfNone();
+        notesAtOneAndAtNone();
         carrying();
+        carryingUntilNoneAreLeft();
         lateNotesCount();
-        tooManyNotes();
         Check.end();
     }
 
@@ -27,11 +28,6 @@ final class GroupTest {
 
     private static void ingresses() {
         BitNet net = threeEdges();
-        Check.illegalArgument("ingress(-1, 0)", () -> net.ingress(-1, 0));
-        Check.illegalArgument("ingress(8, 0)", () -> net.ingress(8, 0));
-        Check.illegalArgument("ingress(0, -1)", () -> net.ingress(0, -1));
-        Check.illegalArgument("ingress(0, 12)", () -> net.ingress(0, 12));
-        Check.illegalArgument("no edge", () -> net.ingress(0, 3));
         net.ingress(0, 0);
         net.ingress(7, 0);
         Check.illegalArgument("not 0's ingress", () -> net.send(1, 0));
@@ -40,8 +36,6 @@ final class GroupTest {
         net.send(1, 0);
         Check.illegalArgument("no more 0's ingress", () -> net.send(0, 0));
         Check.same("two packets", net.count(3), 2);
-        Check.illegalArgument("bits(-1)", () -> net.bits(-1));
-        Check.illegalArgument("bits(8)", () -> net.bits(8));
     }
 
     private static void ingressesThatMayNotChange() {
@@ -100,31 +94,8 @@ final class GroupTest {
         Check.illegalArgument("no ingress", () -> net.send(0, 1));
     }
 
-    private static void joinsWithWrongArguments() {
-        BitNet net = threeEdges();
-        net.ingress(0, 0);
-        Check.illegalArgument("join(-1, 0, 1)", () -> net.join(-1, 0, 1));
-        Check.illegalArgument("join(12, 0, 1)", () -> net.join(12, 0, 1));
-        Check.illegalArgument("no edge", () -> net.join(3, 0, 1));
-        Check.illegalArgument("join(1, -1, 1)", () -> net.join(1, -1, 1));
-        Check.illegalArgument("join(1, 8, 1)", () -> net.join(1, 8, 1));
-        Check.illegalArgument("change 0", () -> net.join(1, 0, 0));
-        Check.illegalArgument("change 2", () -> net.join(1, 0, 2));
-        Check.illegalArgument("change -2", () -> net.join(1, 0, -2));
-        Check.illegalArgument("less than 0", () -> net.join(1, 0, -1));
-        for (int n = 1; n <= 100; n++) {
-            Check.same("join", net.join(1, 0, 1), n);
-        }
-        Check.illegalArgument("more than 100", () -> net.join(1, 0, 1));
-        Check.same("one less", net.join(1, 0, -1), 99);
-        Check.same("a single note", net.count(2), 1);
-    }
-
     private static void reports() {
         BitNet net = threeEdges();
-        Check.illegalArgument("report(-1)", () -> net.report(-1));
-        Check.illegalArgument("report(12)", () -> net.report(12));
-        Check.illegalArgument("no edge", () -> net.report(3));
         net.report(1);
         Check.same("no ingress, no note", net.count(2), 0);
         net.ingress(6, 0);
@@ -154,11 +125,6 @@ final class GroupTest {
 
     private static void carrying() {
         BitNet net = threeEdges();
-        Check.illegalArgument("carry(0)", () -> net.carry(0));
-        Check.illegalArgument("carry(-2)", () -> net.carry(-2));
-        Check.illegalArgument("carry(1001)", () -> net.carry(1001));
-        Check.same("none to carry", net.carry(1000), 0);
-        Check.same("none to lose", net.carry(-1), 0);
         net.ingress(0, 0);
         net.join(0, 0, 1);
         net.join(1, 0, 1);
@@ -172,6 +138,70 @@ final class GroupTest {
         Check.same("no messages either", net.count(7), 0);
     }
 
+    // carry: "less, if there are none left"; "1, or 0 if there is none"
+    private static void carryingUntilNoneAreLeft() {
+        BitNet none = threeEdges();
+        Check.same("none to carry", none.carry(1), 0);
+        Check.same("none to carry", none.carry(1000), 0);
+        Check.same("none to lose", none.carry(-1), 0);
+        BitNet just = twoNotes();
+        Check.same("as many as there are", just.carry(2), 2);
+        Check.same("none is left", just.carry(1), 0);
+        BitNet less = twoNotes();
+        Check.same("one less", less.carry(1), 1);
+        Check.same("the other is lost", less.carry(-1), 1);
+        Check.same("none to lose", less.carry(-1), 0);
+        Check.same("one came", less.bits(0), 16);
+        BitNet more = twoNotes();
+        Check.same("one more", more.carry(3), 2);
+        Check.same("both came", more.bits(0), 16 | 1 << 31);
+    }
+
+    private static BitNet twoNotes() {
+        BitNet net = threeEdges();
+        net.ingress(0, 0);
+        net.join(1, 0, 1);
+        net.join(2, 0, 1);
+        Check.same("two notes", net.count(2), 2);
+        return net;
+    }
+
+    // "When a count becomes 1 from 0, or 0 ..."
+    private static void notesAtOneAndAtNone() {
+        BitNet net = threeEdges();
+        net.ingress(0, 0);
+        int[] changes = {1, 1, 1, -1, -1, -1, 1, -1};
+        int[] counts = {1, 2, 3, 2, 1, 0, 1, 0};
+        int[] notes = {1, 1, 1, 1, 1, 2, 3, 4};
+        for (int n = 0; n < changes.length; n++) {
+            Check.same("receivers", net.join(1, 0, changes[n]), counts[n]);
+            Check.same("notes with " + counts[n], net.count(2), notes[n]);
+        }
+        for (int n = 0; n < 4; n++) {
+            net.carry(1);
+            Check.same("in and out by turns", net.bits(0), n % 2 == 0 ? 16 : 0);
+        }
+    }
+
+    // report: "whether the edge's count is above 0"
+    private static void reportsOfOneAndOfNone() {
+        BitNet net = threeEdges();
+        net.ingress(0, 0);
+        net.join(1, 0, 1);
+        net.carry(-1);
+        net.report(1);
+        net.carry(1);
+        Check.same("one is above 0", net.bits(0), 16);
+        net.join(1, 0, -1);
+        net.carry(-1);
+        net.report(1);
+        net.carry(1);
+        Check.same("none is not", net.bits(0), 0);
+        net.report(2);
+        net.carry(1);
+        Check.same("nor is it where there never was one", net.bits(0), 0);
+    }
+
     private static void lateNotesCount() {
         BitNet net = threeEdges();
         net.ingress(0, 0);
@@ -182,32 +212,5 @@ final class GroupTest {
         Check.same("a note tells what was when it was sent", net.bits(0), 16);
         net.carry(1);
         Check.same("the last one says it is out", net.bits(0), 0);
-    }
-
-    // 511 calls, few of which can be spared: an object is used for no more than 512.
-    private static void tooManyNotes() {
-        BitNet net = new BitNet();
-        net.edge(0, 0);
-        net.edge(1, 4);
-        for (int group = 0; group < 8; group++) {
-            net.ingress(group, 0);
-        }
-        for (int n = 0; n < 487; n++) {
-            net.report(1);
-        }
-        net.join(1, 0, 1);
-        net.join(1, 1, 1);
-        net.join(1, 2, 1);
-        net.report(1);
-        Check.same("a report at 3899", net.count(2), 3907);
-        Check.illegalState("report", () -> net.report(1));
-        Check.illegalState("report of no edge", () -> net.report(3));
-        Check.same("nothing was sent", net.count(2), 3907);
-        Check.same("a single note may still be sent", net.join(1, 3, 1), 1);
-        Check.same("carried", net.carry(8), 8);
-        Check.illegalState("3900 are left", () -> net.report(1));
-        Check.same("lost", net.carry(-1), 1);
-        net.report(1);
-        Check.same("sent", net.count(2), 3907);
     }
 }

@@ -6,10 +6,8 @@ final class LinkTest {
     public static void main(String[] args) {
         newObject();
         edges();
-        edgesWithWrongArguments();
         newLinks();
         storesAreSentOverNewLinks();
-        linksWithWrongArguments();
         cuts();
         notices();
         noticesAdvertiseToTheRest();
@@ -23,20 +21,28 @@ final class LinkTest {
             Check.same("count(" + what + ") when new", net.count(what), 0);
         }
         Check.yes("settled() when new", net.settled());
+        Check.same("no message", net.step(1000), 0);
+        Check.same("no note", net.carry(1000), 0);
+        Check.same("no copy", net.move(1000), 0);
+        // Two objects, since one is used for 512 calls.
+        BitNet other = new BitNet();
         for (int r = 0; r < 12; r++) {
-            for (int other = 0; other < 12; other++) {
-                Check.same("stored when new", net.stored(r, other), 0);
-                Check.same("distance when new", net.distance(r, other), r == other ? 0 : -1);
-                Check.same("mask when new", net.mask(r, other), 0);
-                Check.same("alternate when new", net.alternate(r, other), -1);
+            for (int m = 0; m < 12; m++) {
+                Check.same("stored when new", net.stored(r, m), 0);
+                Check.same("distance when new", net.distance(r, m), r == m ? 0 : -1);
+                Check.same("mask when new", other.mask(r, m), 0);
+                Check.same("alternate when new", other.alternate(r, m), -1);
             }
         }
         for (int group = 0; group < 8; group++) {
             Check.same("bits when new", net.bits(group), 0);
         }
         Check.illegalArgument("no packet when new", () -> net.delivered(1));
-        Check.illegalArgument("no edge when new", () -> net.report(0));
-        Check.illegalArgument("no link when new", () -> net.cut(0, 1));
+        for (int r = 0; r < 12; r++) {
+            int at = r;
+            Check.illegalArgument("no edge when new", () -> net.report(at));
+            Check.illegalArgument("no link when new", () -> net.cut(at, (at + 1) % 12));
+        }
     }
 
     private static void edges() {
@@ -58,20 +64,6 @@ final class LinkTest {
         Check.same("no bit in the mask yet", late.mask(0, 1), 0);
         late.edge(1, 4);
         Check.same("a late edge is in the mask", late.mask(0, 1), 16);
-    }
-
-    private static void edgesWithWrongArguments() {
-        BitNet net = new BitNet();
-        net.edge(3, 7);
-        Check.illegalArgument("edge(-1, 0)", () -> net.edge(-1, 0));
-        Check.illegalArgument("edge(12, 0)", () -> net.edge(12, 0));
-        Check.illegalArgument("edge(0, -1)", () -> net.edge(0, -1));
-        Check.illegalArgument("edge(0, 32)", () -> net.edge(0, 32));
-        Check.illegalArgument("edge(0, 39): bit 7 by wrapped shift", () -> net.edge(0, 39));
-        Check.illegalArgument("it is one with that bit", () -> net.edge(3, 7));
-        Check.illegalArgument("it is one with another bit", () -> net.edge(3, 8));
-        Check.illegalArgument("another one has the bit", () -> net.edge(4, 7));
-        net.edge(4, 8);
     }
 
     private static void newLinks() {
@@ -122,66 +114,29 @@ final class LinkTest {
         Check.yes("settled", net.settled());
     }
 
-    private static void linksWithWrongArguments() {
-        BitNet net = new BitNet();
-        net.link(1, 2, 5);
-        Check.illegalArgument("link(-1, 0, 1)", () -> net.link(-1, 0, 1));
-        Check.illegalArgument("link(0, -1, 1)", () -> net.link(0, -1, 1));
-        Check.illegalArgument("link(12, 0, 1)", () -> net.link(12, 0, 1));
-        Check.illegalArgument("link(0, 12, 1)", () -> net.link(0, 12, 1));
-        Check.illegalArgument("the same router", () -> net.link(3, 3, 1));
-        Check.illegalArgument("weight 0", () -> net.link(3, 4, 0));
-        Check.illegalArgument("weight 1001", () -> net.link(3, 4, 1001));
-        Check.illegalArgument("weight below 0", () -> net.link(3, 4, -5));
-        Check.illegalArgument("they have one", () -> net.link(1, 2, 6));
-        Check.illegalArgument("they have one, from the other end", () -> net.link(2, 1, 6));
-        net.cut(2, 1);
-        Check.illegalArgument("they have a cut one", () -> net.link(1, 2, 6));
-        net.notice(1, 2);
-        Check.illegalArgument("one end still knows of it", () -> net.link(1, 2, 6));
-        Check.illegalArgument("one end still knows of it", () -> net.link(2, 1, 6));
-        Check.same("nothing was sent by those", net.count(0), 2);
-        net.link(3, 4, 1);
-        net.link(0, 11, 1000);
-    }
-
     private static void cuts() {
         BitNet net = new BitNet();
         net.link(1, 2, 5);
         net.step(9);
-        Check.illegalArgument("cut(-1, 2)", () -> net.cut(-1, 2));
-        Check.illegalArgument("cut(1, 12)", () -> net.cut(1, 12));
-        Check.illegalArgument("cut(1, 1)", () -> net.cut(1, 1));
-        Check.illegalArgument("no link", () -> net.cut(1, 3));
         net.cut(2, 1);
-        Check.illegalArgument("no whole one", () -> net.cut(1, 2));
         Check.same("nobody says so", net.count(0), 0);
         Check.same("nobody knows", net.distance(1, 2), 5);
         Check.same("nobody advertised", net.stored(1, 1), 1);
-        net.notice(1, 2);
-        net.notice(2, 1);
-        Check.illegalArgument("it is gone", () -> net.cut(1, 2));
+        Check.same("nobody advertised", net.stored(2, 2), 1);
     }
 
     private static void notices() {
         BitNet net = new BitNet();
         net.link(1, 2, 5);
         net.step(9);
-        Check.illegalArgument("notice(-1, 2)", () -> net.notice(-1, 2));
-        Check.illegalArgument("notice(1, 12)", () -> net.notice(1, 12));
-        Check.illegalArgument("notice(1, 1)", () -> net.notice(1, 1));
-        Check.illegalArgument("it isn't cut", () -> net.notice(1, 2));
-        Check.illegalArgument("no such link", () -> net.notice(1, 3));
         net.cut(1, 2);
         net.notice(1, 2);
         Check.same("it advertised", net.stored(1, 1), 2);
         Check.same("it knows no neighbour to tell", net.count(0), 0);
         Check.same("it has no way any more", net.distance(1, 2), -1);
         Check.same("the other one has", net.distance(2, 1), 5);
-        Check.illegalArgument("it doesn't know one any more", () -> net.notice(1, 2));
         net.notice(2, 1);
         Check.same("the other one, too", net.distance(2, 1), -1);
-        Check.illegalArgument("it is gone", () -> net.notice(2, 1));
     }
 
     private static void noticesAdvertiseToTheRest() {

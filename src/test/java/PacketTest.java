@@ -5,20 +5,18 @@ final class PacketTest {
 
     public static void main(String[] args) {
         sends();
-        sendsWithWrongArguments();
         packetsAreParted();
         copiesGoOldestFirst();
         bitsInNoMask();
         copiesOverCutLinks();
         copiesOverLinksMadeAnew();
         losingCopies();
+        movingUntilNoneAreLeft();
         packetsExpire();
+        eachCopyHasHopsOfItsOwn();
         expiringInParts();
         deliveredWithTheLastHop();
-        packetsWithWrongNumbers();
         counts();
-        tooManyCopies();
-        movesToTheLimit();
         Check.end();
     }
 
@@ -40,22 +38,6 @@ final class PacketTest {
         Check.same("carried", net.move(1000), 3);
         Check.same("to whom it had heard of", net.delivered(2), 3);
         Check.same("to all", net.delivered(3), 7);
-    }
-
-    private static void sendsWithWrongArguments() {
-        BitNet net = Nets.line(2);
-        net.ingress(3, 1);
-        Check.illegalArgument("send(-1, 3)", () -> net.send(-1, 3));
-        Check.illegalArgument("send(12, 3)", () -> net.send(12, 3));
-        Check.illegalArgument("send(1, -1)", () -> net.send(1, -1));
-        Check.illegalArgument("send(1, 8)", () -> net.send(1, 8));
-        Check.illegalArgument("another edge", () -> net.send(2, 3));
-        Check.illegalArgument("no edge", () -> net.send(7, 3));
-        Check.illegalArgument("no ingress", () -> net.send(1, 2));
-        Check.illegalArgument("no router and no ingress", () -> net.send(-1, 2));
-        Check.illegalArgument("sendBits(-1, 1)", () -> net.sendBits(-1, 1));
-        Check.illegalArgument("sendBits(12, 1)", () -> net.sendBits(12, 1));
-        Check.same("no packets", net.count(3), 0);
     }
 
     private static void packetsAreParted() {
@@ -133,6 +115,13 @@ final class PacketTest {
         net.notice(2, 1);
         net.move(1);
         Check.same("the link is gone", net.count(6), 3);
+        BitNet half = Nets.line(1);
+        half.sendBits(0, 2);
+        half.sendBits(1, 1);
+        half.cut(0, 1);
+        half.notice(0, 1);
+        Check.same("both are carried", half.move(5), 2);
+        Check.same("and lost, one end still knowing the link", half.count(6), 2);
     }
 
     private static void copiesOverLinksMadeAnew() {
@@ -149,11 +138,6 @@ final class PacketTest {
 
     private static void losingCopies() {
         BitNet net = Nets.line(3);
-        Check.same("none to move", net.move(1000), 0);
-        Check.same("none to lose", net.move(-1), 0);
-        Check.illegalArgument("move(0)", () -> net.move(0));
-        Check.illegalArgument("move(-2)", () -> net.move(-2));
-        Check.illegalArgument("move(1001)", () -> net.move(1001));
         net.sendBits(0, 0b1110);
         net.sendBits(3, 0b0111);
         Check.same("loses one", net.move(-1), 1);
@@ -163,6 +147,40 @@ final class PacketTest {
         Check.same("though it set out", net.crossings(1), 1);
         Check.same("the second one came", net.delivered(2), 7);
         Check.same("nothing expired", net.count(5), 0);
+    }
+
+    // move: "less, if there are none left"; "1, or 0 if there is none"
+    private static void movingUntilNoneAreLeft() {
+        BitNet none = Nets.line(2);
+        Check.same("none to move", none.move(1), 0);
+        Check.same("none to move", none.move(1000), 0);
+        Check.same("none to lose", none.move(-1), 0);
+        Check.same("no bits are lost with none", none.count(6), 0);
+        BitNet just = twoCopies();
+        Check.same("as many as there are", just.move(2), 2);
+        Check.same("none is left", just.move(1), 0);
+        BitNet less = twoCopies();
+        Check.same("one less", less.move(1), 1);
+        Check.same("the other is lost", less.move(-1), 1);
+        Check.same("with its bit", less.count(6), 1);
+        Check.same("none to lose", less.move(-1), 0);
+        Check.same("one came", less.delivered(1), 1);
+        BitNet more = twoCopies();
+        Check.same("one more", more.move(3), 2);
+        Check.same("both came", more.delivered(1), 5);
+        BitNet sentOn = Nets.line(3);
+        sentOn.sendBits(0, 8);
+        Check.same("those that set out meanwhile, too", sentOn.move(1000), 3);
+        BitNet lost = twoCopies();
+        lost.cut(0, 1);
+        Check.same("lost ones are carried, too", lost.move(3), 2);
+    }
+
+    private static BitNet twoCopies() {
+        BitNet net = Nets.line(2);
+        net.sendBits(1, 5);
+        Check.same("two copies", net.count(1), 2);
+        return net;
     }
 
     private static void packetsExpire() {
@@ -185,6 +203,32 @@ final class PacketTest {
         net.step(1000);
         Check.same("when 0 has heard it goes to 1, 0 and 2", net.move(1000), 3);
         Check.same("delivered", net.delivered(2), 4);
+    }
+
+    private static void eachCopyHasHopsOfItsOwn() {
+        BitNet net = Nets.loop();
+        net.sendBits(0, 4);
+        net.move(100);
+        net.sendBits(0, 4);
+        net.sendBits(1, 4);
+        Check.same("by turns, to 255 hops and twice 155", net.move(3 * 154), 3 * 154);
+        Check.same("crossed by the first", net.crossings(1), 255);
+        Check.same("crossed by the second", net.crossings(2), 155);
+        Check.same("crossed by the third", net.crossings(3), 155);
+        Check.same("none has expired", net.count(5), 0);
+        net.move(1);
+        Check.same("the first has", net.count(5), 1);
+        Check.same("two are left", net.count(1), 2);
+        Check.same("two by turns, to 255 hops", net.move(2 * 100), 2 * 100);
+        Check.same("the others are on their way", net.count(5), 1);
+        Check.same("the second", net.move(1), 1);
+        Check.same("has expired", net.count(5), 2);
+        Check.same("the third", net.move(1), 1);
+        Check.same("has expired, too", net.count(5), 3);
+        Check.same("none is left", net.move(1000), 0);
+        Check.same("crossed by the second", net.crossings(2), 255);
+        Check.same("crossed by the third", net.crossings(3), 255);
+        Check.same("nothing is lost", net.count(6), 0);
     }
 
     private static void expiringInParts() {
@@ -229,21 +273,6 @@ final class PacketTest {
         Check.same("and does not expire", net.count(5), 0);
     }
 
-    private static void packetsWithWrongNumbers() {
-        BitNet net = Nets.line(1);
-        Check.illegalArgument("delivered(1)", () -> net.delivered(1));
-        Check.illegalArgument("crossings(1)", () -> net.crossings(1));
-        net.sendBits(0, 3);
-        Check.illegalArgument("delivered(0)", () -> net.delivered(0));
-        Check.illegalArgument("delivered(-1)", () -> net.delivered(-1));
-        Check.illegalArgument("delivered(2)", () -> net.delivered(2));
-        Check.illegalArgument("crossings(0)", () -> net.crossings(0));
-        Check.illegalArgument("crossings(-1)", () -> net.crossings(-1));
-        Check.illegalArgument("crossings(2)", () -> net.crossings(2));
-        Check.same("delivered(1)", net.delivered(1), 1);
-        Check.same("crossings(1)", net.crossings(1), 1);
-    }
-
     private static void counts() {
         BitNet net = Nets.line(1);
         net.ingress(0, 0);
@@ -270,63 +299,5 @@ final class PacketTest {
         Check.same("notes", net.count(2), 0);
         Check.same("delivered", net.count(4), 2);
         Check.same("messages lost", net.count(7), 1);
-    }
-
-    private static void tooManyCopies() {
-        BitNet net = Nets.star();
-        int all = 0b111111111110;
-        net.ingress(0, 0);
-        for (int n = 1; n <= 354; n++) {
-            net.sendBits(0, all);
-        }
-        Check.same("copies", net.count(1), 3894);
-        Check.same("five to 3899", net.sendBits(0, 0b111110), 355);
-        Check.same("one may be moved", net.move(1), 1);
-        net.sendBits(0, 0b110);
-        Check.same("copies", net.count(1), 3900);
-        Check.illegalState("move", () -> net.move(1));
-        Check.illegalState("move with a wrong argument", () -> net.move(0));
-        Check.same("but one may be lost", net.move(-1), 1);
-        Check.same("then some may be moved", net.move(2), 2);
-        for (int n = 1; n <= 9; n++) {
-            net.sendBits(0, all);
-        }
-        Check.same("copies", net.count(1), 3996);
-        int packets = net.count(3);
-        int delivered = net.count(4);
-        Check.illegalState("eleven more", () -> net.sendBits(0, -1));
-        Check.illegalState("five more", () -> net.sendBits(0, 0b111110));
-        Check.illegalArgument("no such router", () -> net.sendBits(12, -1));
-        Check.same("no packet", net.count(3), packets);
-        Check.same("nothing is delivered", net.count(4), delivered);
-        Check.same("nothing is lost but the one", net.count(6), 1);
-        Check.same("four more", net.sendBits(0, 0b11110), packets + 1);
-        Check.same("4000 copies", net.count(1), 4000);
-        Check.illegalState("one more", () -> net.sendBits(1, 1));
-        Check.same("none more", net.sendBits(1, 2), packets + 2);
-        Check.same("it is delivered", net.delivered(packets + 2), 2);
-        net.join(1, 0, 1);
-        net.carry(1);
-        Check.illegalState("one more for a group", () -> net.send(0, 0));
-        Check.illegalArgument("not the ingress", () -> net.send(1, 0));
-    }
-
-    private static void movesToTheLimit() {
-        BitNet net = Nets.star();
-        for (int n = 1; n <= 8; n++) {
-            net.sendBits(1, 0b1100);
-        }
-        for (int n = 1; n <= 353; n++) {
-            net.sendBits(0, 0b111111111110);
-        }
-        net.sendBits(0, 0b11110);
-        // The oldest 8 become two each when they come to 0.
-        Check.same("copies", net.count(1), 8 + 353 * 11 + 4);
-        Check.same("until 3900 are on their way", net.move(1000), 5);
-        Check.same("copies", net.count(1), 3900);
-        Check.illegalState("move at 3900", () -> net.move(1));
-        net.move(-1);
-        Check.same("one more", net.move(1000), 1);
-        Check.same("copies", net.count(1), 3900);
     }
 }
