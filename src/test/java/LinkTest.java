@@ -12,6 +12,7 @@ final class LinkTest {
         notices();
         noticesAdvertiseToTheRest();
         linksMadeAnew();
+        advertisementsToTheLastCall();
         Check.end();
     }
 
@@ -166,5 +167,17 @@ final class LinkTest {
         Check.same("numbers go on: 1 at 0-1, 1-2, unlearning, 1-2", net.stored(0, 1), 4);
         Check.same("numbers go on: 1-2, unlearning, 1-2", net.stored(0, 2), 3);
         Check.yes("settled", net.settled());
+    }
+
+    // "An object is used for at most 512 calls": these make more than one advertisement each.
+    private static void advertisementsToTheLastCall() {
+        BitNet net = Nets.crowd(10, 0);
+        net.link(10, 11, 1);
+        for (int n = 0; n < 116; n++) {
+            Nets.anew(net, 10, 11);
+        }
+        // 45 + 1 + 4 * 116 calls until now.
+        Check.same("each time two more", net.stored(10, 10), 1 + 2 * 116);
+        Check.same("each time two more", net.stored(11, 11), 1 + 2 * 116);
     }
 }
